@@ -5,27 +5,37 @@ import java.io.InputStream;
 import java.io.LineNumberInputStream;
 import java.io.SequenceInputStream;
 import java.io.StringBufferInputStream;
+import java.util.NoSuchElementException;
 import java.util.zip.CRC32C;
 import java.util.zip.CheckedInputStream;
 
 /**
  * Long runs of calls, made by a row of numbers that is always the same, on Layerwell and on the JDK's own streams
- * at once. Every answer must agree, of the calls that throw, too.
+ * at once. Every answer must agree, of the calls that throw, too. No object is asked more than 512 calls, as what
+ * later ones answer is free.
  */
 @SuppressWarnings("deprecation")
 public final class JdkTest {
-    private static final int RUNS = 1500;
-    private static final int CALLS = 200;
+    private static final int RUNS = 2000;
+    private static final int CALLS = 512;
+    // With two calls behind each, and 64 at the end that look at the part, these are no more than 512, too.
+    private static final int COMPARED_CALLS = 140;
+    // Answers that no call gives stand for the exceptions.
     private static final int PLACE = -1001;
     private static final int ARGUMENT = -1002;
     private static final int STATE = -1003;
     private static final int ABLE = -1004;
-    private static final int ELEMENT = -1005;
+    private static final int NUMBER = -1005;
+    private static final int ELEMENT = -1006;
+    private static final int OTHER = -1007;
     private static final int[] LIKELY = {10, 13, 97, 98};
+    private static final int[] EDGES = {Integer.MIN_VALUE, Integer.MAX_VALUE, -1, 256, 201, 65, 61};
     private static final String[] CALL_NAMES = {
-        "type", "typeMany", "cut", "clear", "ends", "open", "read", "readPart", "skip", "readLine",
-        "pour", "alike", "canMark", "mark", "back", "left", "line", "setLine", "check", "checkAnew",
-        "checkOf", "kind", "meanLine", "isTrue", "share"};
+        "type", "typeMany", "cut", "clear", "length", "byteAt", "ends", "open", "kind", "read", "readPart",
+        "partLength", "partAt", "skip", "readLine", "pour", "alike", "canMark", "mark", "back", "left", "line",
+        "setLine", "check", "checkAnew", "checkOf", "share", "meanLine", "checksum", "isTrue",
+        // What fills sources and streams is asked more often.
+        "type", "typeMany", "open", "open", "readPart", "skip", "mark", "back"};
 
     private static long seed = 20261118;
 
@@ -39,33 +49,51 @@ public final class JdkTest {
         Due.end();
     }
 
+    /** One half of the runs looks at all behind each call, the other half only asks, up to the last call there is. */
     private void run(int run) throws IOException {
-        for (int i = 0; i < CALLS; i++) {
-            int call = upTo(CALL_NAMES.length);
-            int a = chosen(4);
-            int b = chosen(4);
-            int c = upTo(6) == 0 ? upTo(260) - 2 : LIKELY[upTo(4)];
-            int many = upTo(3) == 0 ? upTo(210) - 3 : upTo(5);
-            int kind = chosen(8);
-            double got = ask(call, a, b, c, many, kind);
-            double want = well.ask(call, a, b, c, many, kind);
-            Due.is("run " + run + ", call " + i + ": " + CALL_NAMES[call] + " with " + a + " " + b + " " + c + " "
-                    + many + " " + kind, got, want);
-            compareState(run, i);
+        boolean compared = run % 2 == 0;
+        for (int i = 0; i < (compared ? COMPARED_CALLS : CALLS); i++) {
+            String where = "run " + run + ", call " + i + ": ";
+            askBoth(where);
+            if (compared) {
+                Due.is(where + "checksum", x.checksum(), well.checksum());
+                Due.is(where + "partLength", x.partLength(), well.part.length);
+            }
+        }
+        if (compared) {
+            for (int i = 0; i < well.part.length; i++) {
+                Due.is("run " + run + ", at the end: partAt " + i, x.partAt(i), well.part[i] & 255);
+            }
         }
     }
 
-    private void compareState(int run, int call) {
-        Due.is("run " + run + ", call " + call + ": checksum", x.checksum(), well.checksum());
-        Due.is("run " + run + ", call " + call + ": partLength", x.partLength(), well.part.length);
-        for (int i = 0; i < well.part.length && i < x.partLength(); i++) {
-            Due.is("run " + run + ", call " + call + ": partAt " + i, x.partAt(i), well.part[i] & 255);
+    private void askBoth(String where) throws IOException {
+        String call = CALL_NAMES[upTo(CALL_NAMES.length)];
+        int a = chosen(4);
+        int b = chosen(4);
+        int c = orEdge(upTo(6) == 0 ? upTo(260) - 2 : LIKELY[upTo(4)]);
+        int many = orEdge(upTo(3) == 0 ? upTo(210) - 3 : upTo(5));
+        int kind = chosen(8);
+        String asked = where + call + " with " + a + " " + b + " " + c + " " + many + " " + kind;
+        if (call.equals("checksum")) {
+            Due.is(asked, x.checksum(), well.checksum());
+        } else {
+            Due.is(asked, ask(call, a, b, c, many, kind), well.ask(call, a, b, c, many, kind));
         }
     }
 
     /** Mostly a number that there is. */
     private static int chosen(int bound) {
-        return upTo(40) == 0 ? upTo(2) * (bound + 1) - 1 : upTo(bound);
+        return upTo(40) > 0 ? upTo(bound) : upTo(3) == 0 ? EDGES[upTo(4)] : upTo(2) * (bound + 1) - 1;
+    }
+
+    private static int orEdge(int number) {
+        return upTo(30) == 0 ? EDGES[upTo(EDGES.length)] : number;
+    }
+
+    /** Line numbers that soon go round are as likely as any others. */
+    private static int lineOf(int c) {
+        return c % 2 == 0 ? Integer.MAX_VALUE - (c & 3) : c * 16777216;
     }
 
     private static int upTo(int bound) {
@@ -73,17 +101,21 @@ public final class JdkTest {
         return (int) ((seed >>> 33) % bound);
     }
 
-    private double ask(int call, int a, int b, int c, int many, int kind) {
+    private double ask(String call, int a, int b, int c, int many, int kind) {
         try {
-            switch (CALL_NAMES[call]) {
+            switch (call) {
                 case "type": return x.type(a, c);
                 case "typeMany": return x.typeMany(a, c, many);
                 case "cut": return x.cut(a);
                 case "clear": return x.clear(a);
+                case "length": return x.length(a);
+                case "byteAt": return x.byteAt(a, many);
                 case "ends": return x.ends(a);
                 case "open": return x.open(a, kind, b, Math.floorMod(c, 4));
                 case "read": return x.read(a);
                 case "readPart": return x.readPart(a, many);
+                case "partLength": return x.partLength();
+                case "partAt": return x.partAt(many);
                 case "skip": return x.skip(a, many);
                 case "readLine": return x.readLine(a, b);
                 case "pour": return x.pour(a, b);
@@ -93,7 +125,7 @@ public final class JdkTest {
                 case "back": return x.back(a);
                 case "left": return x.left(a);
                 case "line": return x.line(a);
-                case "setLine": return x.setLine(a, c * 16777216);
+                case "setLine": return x.setLine(a, lineOf(c));
                 case "check": return x.check(a);
                 case "checkAnew": return x.checkAnew(a);
                 case "checkOf": return x.checkOf(a);
@@ -102,17 +134,27 @@ public final class JdkTest {
                 case "isTrue": return x.isTrue() ? 1 : 0;
                 default: return x.share(a);
             }
-        } catch (IndexOutOfBoundsException e) {
+        } catch (RuntimeException e) {
+            return numberOf(e.getClass());
+        }
+    }
+
+    /** Just the class that the document names: one below it would be an exception that the machine has thrown. */
+    private static int numberOf(Class<?> thrown) {
+        if (thrown == IndexOutOfBoundsException.class) {
             return PLACE;
-        } catch (IllegalArgumentException e) {
+        } else if (thrown == IllegalArgumentException.class) {
             return ARGUMENT;
-        } catch (IllegalStateException e) {
+        } else if (thrown == IllegalStateException.class) {
             return STATE;
-        } catch (UnsupportedOperationException e) {
+        } else if (thrown == UnsupportedOperationException.class) {
             return ABLE;
-        } catch (ArithmeticException | java.util.NoSuchElementException e) {
+        } else if (thrown == ArithmeticException.class) {
+            return NUMBER;
+        } else if (thrown == NoSuchElementException.class) {
             return ELEMENT;
         }
+        return OTHER;
     }
 
     /** One stream of the JDK, its layers known by name, and all that it will give, read of a twin ahead of it. */
@@ -204,8 +246,10 @@ public final class JdkTest {
         private final Layers[] streams = new Layers[4];
         private byte[] part = new byte[0];
 
-        double ask(int call, int a, int b, int c, int many, int kind) throws IOException {
-            switch (CALL_NAMES[call]) {
+        double ask(String call, int a, int b, int c, int many, int kind) throws IOException {
+            switch (call) {
+                case "partLength": return part.length;
+                case "partAt": return byteOf(part, many);
                 case "meanLine": return meanLine();
                 case "isTrue": return 1;
                 default: break;
@@ -213,13 +257,15 @@ public final class JdkTest {
             if (a < 0 || a > 3) {
                 return PLACE;
             }
-            switch (CALL_NAMES[call]) {
+            switch (call) {
                 case "type": return typeMany(a, c, 1);
                 case "typeMany": return typeMany(a, c, many);
                 case "cut": return cut(a);
                 case "clear": return become(a, new byte[0]);
+                case "length": return sources[a].length;
+                case "byteAt": return byteOf(sources[a], many);
                 case "ends": return ends(a);
-                case "share": return sources[a].length == 0 ? ELEMENT : (float) ends(a) / (float) sources[a].length;
+                case "share": return sources[a].length == 0 ? NUMBER : (float) ends(a) / (float) sources[a].length;
                 case "checkOf": return checkOf(sources[a]);
                 case "open": return open(a, kind, b, Math.floorMod(c, 4));
                 case "kind": return streams[a] == null ? -1 : streams[a].kind;
@@ -232,12 +278,12 @@ public final class JdkTest {
             }
         }
 
-        private double askOpen(int call, int a, int b, int c, int many) throws IOException {
+        private double askOpen(String call, int a, int b, int c, int many) throws IOException {
             Layers layers = streams[a];
             if (layers == null) {
                 return ABLE;
             }
-            switch (CALL_NAMES[call]) {
+            switch (call) {
                 case "read": return layers.next();
                 case "readPart": return readPart(layers, many);
                 case "skip": return layers.skip(many);
@@ -249,7 +295,7 @@ public final class JdkTest {
                 case "back": return back(layers);
                 case "left": return "013".indexOf('0' + layers.kind) < 0 ? ABLE : layers.top.available();
                 case "line": return layers.lineOr(ABLE);
-                case "setLine": return setLine(layers, c * 16777216);
+                case "setLine": return setLine(layers, lineOf(c));
                 case "check": return layers.checked == null ? ABLE : layers.checked.getChecksum().getValue();
                 default: return checkAnew(layers);
             }
@@ -275,6 +321,10 @@ public final class JdkTest {
             }
             sources[source] = java.util.Arrays.copyOf(old, old.length - 1);
             return old[old.length - 1] & 255;
+        }
+
+        private static int byteOf(byte[] bytes, int index) {
+            return index < 0 || index >= bytes.length ? PLACE : bytes[index] & 255;
         }
 
         private int become(int source, byte[] bytes) {
@@ -393,7 +443,7 @@ public final class JdkTest {
                     numbered++;
                 }
             }
-            return numbered == 0 ? ELEMENT : (double) sum / (double) numbered;
+            return numbered == 0 ? NUMBER : (double) sum / (double) numbered;
         }
 
         private long checksum() {

@@ -21,6 +21,15 @@ public final class TheoremTest {
     // A byte that only the fault of the choice knows.
     private static final int ODD_BYTE = 77;
 
+    // A reading byte by byte that differs from the one that parts and skips go by; what it answers follows.
+    private static final String NEXT = "int next() {";
+    private static final String OWN_NEXT = "int next() { int got = step(); return %s; }  int step() {";
+    private static final String PUT_NEXT = "into.put(next());";
+    private static final String PUT_STEP = "into.put(step());";
+    private static final String SKIP_NEXT = "next();\n            }\n            return passed;";
+    private static final String SKIP_STEP = "step();\n            }\n            return passed;";
+
+    // What a fault is, and then by twos the text that is right and the one that takes its place.
     private static final String[][] FAULTS = {
         {"a byte that is read wrong", "return number;\n        }\n\n        int pass",
             "return number ^ 1;\n        }\n\n        int pass"},
@@ -33,7 +42,8 @@ public final class TheoremTest {
         {"parts with wrong bytes", "move(taken, into);\n", "move(taken, into); into.takeLast(); into.put(1);\n"},
         {"parts that lose a byte", "move(taken, into);\n", "move(taken, into); if (many == 3) { next(); }\n"},
         {"parts that end too soon", "if (taken == 0) {", "if (taken < 3) {"},
-        {"a skip that passes too few", "Math.min(many, rest());\n            for", "Math.min(many, 1);\n            for"},
+        {"a skip that passes too few", "Math.min(many, rest());\n            for",
+            "Math.min(many, 1);\n            for"},
         {"a skip of a third of BYTES that passes too few", "Math.min(many, rest());\n            for",
             "Math.min(many, rest()) - (kind == BYTES && many == 3 ? 1 : 0);\n            for"},
         {"a skip that says too few", "return passed;", "return 0;"},
@@ -43,7 +53,31 @@ public final class TheoremTest {
         {"a mark without its line number", "markLine = lineNumber;", ""},
         {"a way back that leads nowhere", "place = markPlace;", ""},
         {"a way back without the line number", "lineNumber = markLine;", ""},
+        byByteAlone("a first byte one more", "got == 98 && place == 1 ? 99 : got"),
+        byByteAlone("a first byte one less", "got == 98 && place == 1 ? 97 : got"),
+        byByteAlone("a byte behind the end", "got == NONE ? 0 : got"),
+        byByteAlone("another number at the end", "got == NONE ? -2 : got"),
+        {"an end that counts as a line", "if (number == NONE) {", "if (number == NONE) { lineNumber++;"},
+        {"an end that counts in the check", "if (number == NONE) {", "if (number == NONE) { register = 0;"},
+        {"parts with larger bytes", "move(taken, into);\n", "move(taken, into); into.takeLast(); into.put(255);\n"},
+        {"parts that never end", "return NONE;\n            }\n            move",
+            "into.makeEmpty(); return 0;\n            }\n            move"},
+        {"parts that count lines too soon", "move(taken, into);\n",
+            "move(taken, into); if (kind == LINES) { lineNumber += place < out.size() ? 7 : -14; }\n"},
+        {"a skip of JOINED that says what it has not passed", "int i = 0; i < passed;",
+            "int i = kind == JOINED ? 1 : 0; i < passed;"},
+        {"a skip that says too many", "return passed;", "return passed + 1;"},
+        {"a mark that passes a byte", "markPlace = place;", "markPlace = place; place++;"},
+        {"a check one more", "return ALL_BITS - register;", "return ALL_BITS - register + 1;"},
+        {"a check one less", "return ALL_BITS - register;", "return ALL_BITS - register - 1;"},
+        {"a line number one more", "lineNumber = 0;", "lineNumber = 1;"},
+        {"a line number one less", "lineNumber = 0;", "lineNumber = -1;"},
     };
+
+    private static String[] byByteAlone(String name, String answer) {
+        return new String[] {name + ", byte by byte alone", NEXT, String.format(OWN_NEXT, answer),
+            PUT_NEXT, PUT_STEP, SKIP_NEXT, SKIP_STEP};
+    }
 
     public static void main(String[] args) throws Exception {
         Path folder = Files.createTempDirectory("theorem");
@@ -60,12 +94,16 @@ public final class TheoremTest {
         String text = Files.readString(SOURCE, StandardCharsets.UTF_8);
         Due.is("isTrue without a fault", isTrue(compiled(folder, "right", text), sources), true);
         for (int i = 0; i < FAULTS.length; i++) {
-            String wrong = withFault(text, FAULTS[i][1], FAULTS[i][2]);
+            String wrong = text;
+            for (int at = 1; at < FAULTS[i].length; at += 2) {
+                wrong = withFault(wrong, FAULTS[i][at], FAULTS[i][at + 1]);
+            }
             Due.is("isTrue with " + FAULTS[i][0], isTrue(compiled(folder, "fault" + i, wrong), sources), false);
         }
         for (int kind = 0; kind < 8; kind++) {
             String wrong = withFault(text, "place++;", "place++; if (kind == " + kind + ") { return 0; }");
-            Due.is("isTrue with a fault of kind " + kind, isTrue(compiled(folder, "kind" + kind, wrong), sources), false);
+            Class<?> layerwell = compiled(folder, "kind" + kind, wrong);
+            Due.is("isTrue with a fault of kind " + kind, isTrue(layerwell, sources), false);
         }
         String choosy = withFault(text, "place++;", "place++; if (number == " + ODD_BYTE + ") { return 0; }");
         chosenSources(compiled(folder, "choosy", choosy));
