@@ -1,4 +1,3 @@
-import java.io.IOException;
 import java.lang.reflect.Method;
 import java.net.URL;
 import java.net.URLClassLoader;
@@ -6,10 +5,6 @@ import java.nio.charset.StandardCharsets;
 import java.nio.file.Files;
 import java.nio.file.Path;
 import java.util.Arrays;
-import java.util.Comparator;
-import java.util.List;
-import java.util.stream.Collectors;
-import java.util.stream.Stream;
 import javax.tools.ToolProvider;
 
 /**
@@ -84,7 +79,7 @@ public final class TheoremTest {
         try {
             faults(folder);
         } finally {
-            remove(folder);
+            Folder.remove(folder);
         }
         Due.end();
     }
@@ -159,15 +154,5 @@ public final class TheoremTest {
             }
         }
         return (boolean) layerwell.getMethod("isTrue").invoke(x);
-    }
-
-    private static void remove(Path folder) throws IOException {
-        List<Path> paths;
-        try (Stream<Path> walked = Files.walk(folder)) {
-            paths = walked.sorted(Comparator.reverseOrder()).collect(Collectors.toList());
-        }
-        for (Path path : paths) {
-            Files.delete(path);
-        }
     }
 }
